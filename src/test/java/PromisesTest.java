@@ -11,6 +11,8 @@ public final class PromisesTest {
         write();
         ringTexts();
         ringAndWhatIsOnIt();
+        staleBytes();
+        sixContenders();
         begin();
         wake();
         deliver();
@@ -197,6 +199,45 @@ public final class PromisesTest {
         due("a smaller ring: link(4)", x.link(4), UNKNOWN);
     }
 
+    private static void staleBytes() {
+        x = new HeadsOfRings();
+        type("11111111111111111111");
+        due("twenty figures: ring()", x.ring(), -100);
+        type("7r;8");
+        due("what an earlier text had behind the end: ring()", x.ring(), -104);
+        type("                    ");
+        due("twenty blanks: ring()", x.ring(), -120);
+        type("7r;8b;");
+        due("what an earlier text had behind the end: ring()", x.ring(), 2);
+        type("7r;8b;9r;");
+        x.ring();
+        type("7r;");
+        due("what an earlier text had behind the end: ring()", x.ring(), -103);
+    }
+
+    private static void sixContenders() {
+        make("11r;22b;33r;44b;55r;66b;", 2);
+        for (int i = 0; i < 6; i++) {
+            due("wake(" + i + ")", x.wake(i), 2);
+        }
+        for (int i = 0; i < 6; i++) {
+            contenderIs("one of six", i, 11 * (i + 1), i % 2, 1, NONE, 0, NONE, 0);
+        }
+        due("twelve letters: count(2)", x.count(2), 12);
+        due("all of them: sent(2)", x.sent(2), 12);
+        // Each lesser neighbour answers a probe; each greater one lets it disappear.
+        for (int l = 0; l < 12; l++) {
+            due("deliver(" + l + ")", x.deliver(l), 2);
+        }
+        due("count(4)", x.count(4), 1);
+        due("sent(3)", x.sent(3), 6);
+        // The replies; phases 1 and 2 there and back; phase 3 all round in both directions; the crown.
+        due("run(1, 1, 200)", x.run(1, 1, 200), 6 + 2 * 4 + 2 * 8 + 2 * 6 + 6);
+        due("count(8)", x.count(8), 5);
+        due("count(7)", x.count(7), 5);
+        due("the sixth knows: contender(5, 5)", x.contender(5, 5), 66);
+    }
+
     private static void begin() {
         make("5r;9b;", 0);
         int[][] wrong = {{0, 1, 1}, {5, 1, 1}, {1, 0, 1}, {1, 10, 1}, {1, 1, 0}, {1, 1, 1000000}, {LEAST, 1, 1},
@@ -219,12 +260,18 @@ public final class PromisesTest {
         due("begun again: sent(0)", x.sent(0), 0);
         due("begun again: undo()", x.undo(), NOT);
         // A crown turns contender 1; the next algorithm has the senses of the text again.
+        x.wake(0);
+        x.deliver(0);
+        x.deliver(3);
+        due("a reply: contender(0, 6)", x.contender(0, 6), 1);
         x.begin(1, 1, 1);
+        due("begun again: contender(0, 6)", x.contender(0, 6), 0);
         x.wake(0);
         x.run(0, 1, 200);
         due("turned: contender(1, 1)", x.contender(1, 1), 0);
         due("senses of the text still differ: begin(3, 1, 1)", x.begin(3, 1, 1), NOT);
         x.begin(1, 1, 1);
+        due("begun again: sent(7)", x.sent(7), 0);
         contenderIs("begun again", 1, 9, 1, 0, NONE, NONE, NONE, 0);
         make("5b;9b;", 3);
         make("5b;9b;", 4);
@@ -238,6 +285,8 @@ public final class PromisesTest {
         for (int wrong : new int[] {-1, 2, LEAST, GREATEST}) {
             due("wake(" + wrong + ")", x.wake(wrong), UNKNOWN);
         }
+        due("by algorithm 1: wake(0)", x.wake(0), 1);
+        x.undo();
         due("by algorithm 1: wake(1)", x.wake(1), 1);
         letterIs("to the right of one with sense 1", 3, 0, 1, 9, NONE, NONE, NONE);
         contenderIs("woken by algorithm 1", 1, 9, 1, 1, NONE, NONE, NONE, 0);
@@ -435,7 +484,7 @@ public final class PromisesTest {
         letterIs("asleep, then out", 3, 0, 6, 1, 1, 2, 1);
         due("alone and home: deliver(3)", x.deliver(3), 6);
         contenderIs("head by its mark", 0, 1, 1, 3, 1, 1, 1, 0);
-        // An earlier phase disappears, a later one puts out.
+        // Equal marks: both come home, the one behind the other, and draw again.
         x.begin(4, 1, 5);
         wakeAll();
         x.deliver(1);
@@ -488,6 +537,7 @@ public final class PromisesTest {
         linksAre("order 3", firstLinks(3, 1, 3), 2, 4, 0);
         make("1r;2r;3r;9b;8b;", 2);
         wakeAll();
+        linksAre("order 1", firstLinks(1, 1, 3), 9, 8, 7);
         // Order 2 goes on behind the link before, though lesser links have letters again.
         linksAre("order 2", firstLinks(2, 1, 11), 0, 1, 2, 3, 4, 5, 6, 7, 8, 9, 0);
         // The fourth delivery puts a reply on link 0; the next run begins with it, not with link 4.
@@ -692,6 +742,11 @@ public final class PromisesTest {
         int[] two = {1, 2, 0, 6};
         for (int what = 0; what <= 3; what++) {
             due("foresee(2, " + what + ")", x.foresee(2, what), two[what]);
+        }
+        // Least: 5 disappears, 7 goes on and disappears; greatest: 7 and twice 9 go on.
+        int[] three = {1, 3, 0, 10};
+        for (int what = 0; what <= 3; what++) {
+            due("foresee(3, " + what + ")", x.foresee(3, what), three[what]);
         }
         due("nothing is changed: count(2)", x.count(2), 3);
         due("nothing is changed: count(9)", x.count(9), 3);
