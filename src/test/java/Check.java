@@ -1,12 +1,18 @@
 /** Counts the answers that are not the ones that are due. */
 final class Check {
     private int wrong = 0;
+    private String sentence = "";
+
+    /** The sentence of the document that the following answers are due to. */
+    void says(String sentenceOfDocument) {
+        sentence = "\"" + sentenceOfDocument + "\" ";
+    }
 
     void due(String call, long got, long want) {
         if (got != want) {
             wrong++;
             if (wrong <= 50) {
-                System.out.println(call + " answered " + got + ", due is " + want);
+                System.out.println(sentence + call + " answered " + got + ", due is " + want);
             }
         }
     }

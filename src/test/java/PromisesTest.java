@@ -1,12 +1,10 @@
 /** Each promise of the document by itself: ordinary inputs, the edges that it names, wrong inputs. */
-public final class PromisesTest {
-    private static final int NONE = -1, UNKNOWN = -1000001, OUTSIDE = -1000002, NOT = -1000003, FULL = -1000004;
-    private static final int LEAST = Integer.MIN_VALUE, GREATEST = Integer.MAX_VALUE;
-
-    private static final Check check = new Check();
-    private static HeadsOfRings x;
-
+public final class PromisesTest extends Bench {
     public static void main(String[] args) {
+        new PromisesTest().all();
+    }
+
+    private void all() {
         newObject();
         write();
         ringTexts();
@@ -40,47 +38,7 @@ public final class PromisesTest {
         check.end();
     }
 
-    private static void due(String call, long got, long want) {
-        check.due(call, got, want);
-    }
-
-    private static void type(String text) {
-        for (int i = 0; i < text.length(); i++) {
-            x.write(text.charAt(i));
-        }
-    }
-
-    /** A new object with the ring of the text, and an algorithm with d 1 and seed 1 if way is not 0. */
-    private static void make(String text, int way) {
-        x = new HeadsOfRings();
-        type(text);
-        due("ring() of " + text + " is one", x.ring() >= 2 ? 1 : 0, 1);
-        if (way != 0) {
-            due("begin(" + way + ", 1, 1) on " + text, x.begin(way, 1, 1), 1);
-        }
-    }
-
-    private static void wakeAll() {
-        for (int i = 0; i < x.count(0); i++) {
-            x.wake(i);
-        }
-    }
-
-    /** Kind, number, phase, steps and alone of a letter. */
-    private static void letterIs(String claim, int link, int letter, int... want) {
-        for (int what = 0; what < want.length; what++) {
-            due(claim + ": letter(" + link + ", " + letter + ", " + what + ")", x.letter(link, letter, what), want[what]);
-        }
-    }
-
-    /** Name, sense, state, mark, phase, known number, and tally of a contender. */
-    private static void contenderIs(String claim, int who, int... want) {
-        for (int what = 0; what < want.length; what++) {
-            due(claim + ": contender(" + who + ", " + what + ")", x.contender(who, what), want[what]);
-        }
-    }
-
-    private static void newObject() {
+    private void newObject() {
         x = new HeadsOfRings();
         for (int what = 0; what <= 10; what++) {
             due("new: count(" + what + ")", x.count(what), what == 8 ? NONE : 0);
@@ -92,7 +50,7 @@ public final class PromisesTest {
         due("objects are apart: count(10)", other.count(10), 0);
     }
 
-    private static void write() {
+    private void write() {
         x = new HeadsOfRings();
         for (int wrong : new int[] {-1, 256, LEAST, GREATEST}) {
             due("write(" + wrong + ")", x.write(wrong), OUTSIDE);
@@ -110,7 +68,7 @@ public final class PromisesTest {
         due("write(32) after ring()", x.write(32), 1);
     }
 
-    private static void text(String text, int answer, int fault) {
+    private void text(String text, int answer, int fault) {
         x = new HeadsOfRings();
         type(text);
         due("ring() of '" + text + "'", x.ring(), answer);
@@ -119,7 +77,7 @@ public final class PromisesTest {
         due("count(10) of '" + text + "'", x.count(10), 0);
     }
 
-    private static void ringTexts() {
+    private void ringTexts() {
         text("", -100, 1);
         text("   ", -103, 1);
         text("7", -101, 1);
@@ -168,7 +126,7 @@ public final class PromisesTest {
         text("0000000000000000000000000000000000000000", -100, 2);
     }
 
-    private static void ringAndWhatIsOnIt() {
+    private void ringAndWhatIsOnIt() {
         make("5r;9b;", 1);
         x.wake(0);
         type("1r;");
@@ -199,7 +157,7 @@ public final class PromisesTest {
         due("a smaller ring: link(4)", x.link(4), UNKNOWN);
     }
 
-    private static void staleBytes() {
+    private void staleBytes() {
         x = new HeadsOfRings();
         type("11111111111111111111");
         due("twenty figures: ring()", x.ring(), -100);
@@ -215,7 +173,7 @@ public final class PromisesTest {
         due("what an earlier text had behind the end: ring()", x.ring(), -103);
     }
 
-    private static void sixContenders() {
+    private void sixContenders() {
         make("11r;22b;33r;44b;55r;66b;", 2);
         for (int i = 0; i < 6; i++) {
             due("wake(" + i + ")", x.wake(i), 2);
@@ -238,7 +196,7 @@ public final class PromisesTest {
         due("the sixth knows: contender(5, 5)", x.contender(5, 5), 66);
     }
 
-    private static void begin() {
+    private void begin() {
         make("5r;9b;", 0);
         int[][] wrong = {{0, 1, 1}, {5, 1, 1}, {1, 0, 1}, {1, 10, 1}, {1, 1, 0}, {1, 1, 1000000}, {LEAST, 1, 1},
             {2, GREATEST, 1}, {4, 1, LEAST}, {3, 0, 1}};
@@ -277,7 +235,7 @@ public final class PromisesTest {
         make("5b;9b;", 4);
     }
 
-    private static void wake() {
+    private void wake() {
         make("5r;9b;", 0);
         due("no algorithm: wake(0)", x.wake(0), NOT);
         due("no algorithm: wake(2)", x.wake(2), UNKNOWN);
@@ -309,7 +267,7 @@ public final class PromisesTest {
         contenderIs("woken by algorithm 4", 1, 9, 1, 1, mark, 1, NONE, 0);
     }
 
-    private static void deliver() {
+    private void deliver() {
         x = new HeadsOfRings();
         due("no ring: deliver(0)", x.deliver(0), UNKNOWN);
         make("5r;9r;", 0);
@@ -335,7 +293,7 @@ public final class PromisesTest {
         due("at the end: count(2)", x.count(2), 0);
     }
 
-    private static void deliverToAsleepAndHead() {
+    private void deliverToAsleepAndHead() {
         make("5r;9r;7r;", 1);
         x.wake(0);
         x.deliver(0);
@@ -368,7 +326,7 @@ public final class PromisesTest {
         letterIs("the first out is the first in", 0, 0, 1, 9);
     }
 
-    private static void greatestNameWithSenses() {
+    private void greatestNameWithSenses() {
         make("5r;9b;7r;", 1);
         x.wake(1);
         x.wake(2);
@@ -381,7 +339,7 @@ public final class PromisesTest {
         due("crowns: sent(7)", x.sent(7), 3);
     }
 
-    private static void doubling() {
+    private void doubling() {
         make("5r;9r;7b;", 2);
         x.wake(1);
         x.deliver(2);
@@ -427,7 +385,7 @@ public final class PromisesTest {
         due("it does not count: contender(1, 6)", x.contender(1, 6), 0);
     }
 
-    private static void phases() {
+    private void phases() {
         make("5b;9b;", 3);
         wakeAll();
         due("first: deliver(3)", x.deliver(3), 4);
@@ -452,7 +410,7 @@ public final class PromisesTest {
         contenderIs("never woken", 1, 5, 0, 4, NONE, NONE, 9, 0);
     }
 
-    private static void randomMarks() {
+    private void randomMarks() {
         // By seed 11 and d 2 the marks are 2, 1, 2.
         make("1r;2r;3r;", 0);
         x.begin(4, 2, 11);
@@ -476,7 +434,7 @@ public final class PromisesTest {
         due("the mark is known: contender(0, 5)", x.contender(0, 5), x.contender(2, 3));
     }
 
-    private static void randomMarksAgain() {
+    private void randomMarksAgain() {
         make("1b;2b;", 0);
         x.begin(4, 1, 5);
         x.wake(0);
@@ -500,7 +458,7 @@ public final class PromisesTest {
         due("two tokens for ever: count(2)", x.count(2), 2);
     }
 
-    private static int[] firstLinks(int order, int seed, int most) {
+    private int[] firstLinks(int order, int seed, int most) {
         int[] links = new int[most];
         for (int done = 1; done <= most; done++) {
             int[] before = new int[x.count(0) * 2];
@@ -521,13 +479,13 @@ public final class PromisesTest {
         return links;
     }
 
-    private static void linksAre(String claim, int[] got, int... want) {
+    private void linksAre(String claim, int[] got, int... want) {
         for (int i = 0; i < want.length; i++) {
             due(claim + ", delivery " + (i + 1) + " from link", got[i], want[i]);
         }
     }
 
-    private static void runOrders() {
+    private void runOrders() {
         make("1r;2r;9r;", 1);
         wakeAll();
         linksAre("order 0", firstLinks(0, 1, 4), 0, 2, 4, 0);
@@ -545,7 +503,7 @@ public final class PromisesTest {
         linksAre("order 2 begins anew in each run", firstLinks(2, 1, 1), 0);
     }
 
-    private static void runEdges() {
+    private void runEdges() {
         make("5r;9r;", 0);
         due("no algorithm: run(0, 1, 1)", x.run(0, 1, 1), NOT);
         due("no algorithm: run(0, 1, 201)", x.run(0, 1, 201), OUTSIDE);
@@ -566,7 +524,7 @@ public final class PromisesTest {
         due("count(9)", x.count(9), 4);
     }
 
-    private static void undo() {
+    private void undo() {
         make("5r;9b;", 1);
         due("nothing yet: undo()", x.undo(), NOT);
         x.wake(0);
@@ -599,7 +557,7 @@ public final class PromisesTest {
         due("drawn again: contender(0, 3)", x.contender(0, 3), mark);
     }
 
-    private static void undoTwenty() {
+    private void undoTwenty() {
         make("1r;2r;", 4);
         wakeAll();
         for (int i = 0; i < 23; i++) {
@@ -617,7 +575,7 @@ public final class PromisesTest {
         due("three deliveries and the wakings stay: sent(0)", x.sent(0), 5);
     }
 
-    private static void contender() {
+    private void contender() {
         x = new HeadsOfRings();
         due("no ring: contender(0, 9)", x.contender(0, 9), UNKNOWN);
         make("5r;9b;", 0);
@@ -631,7 +589,7 @@ public final class PromisesTest {
         }
     }
 
-    private static void link() {
+    private void link() {
         x = new HeadsOfRings();
         due("no ring: link(0)", x.link(0), UNKNOWN);
         make("5r;9b;7r;", 0);
@@ -647,7 +605,7 @@ public final class PromisesTest {
         }
     }
 
-    private static void letter() {
+    private void letter() {
         x = new HeadsOfRings();
         due("no ring: letter(0, 0, 0)", x.letter(0, 0, 0), UNKNOWN);
         make("5r;9r;", 0);
@@ -668,7 +626,7 @@ public final class PromisesTest {
         letterIs("a name letter", 0, 0, 1, 5, NONE, NONE, NONE);
     }
 
-    private static void sent() {
+    private void sent() {
         x = new HeadsOfRings();
         for (int kind = 0; kind <= 7; kind++) {
             due("no algorithm: sent(" + kind + ")", x.sent(kind), 0);
@@ -687,7 +645,7 @@ public final class PromisesTest {
         due("begun again: sent(1)", x.sent(1), 0);
     }
 
-    private static void would() {
+    private void would() {
         make("5r;9r;7r;", 0);
         due("no algorithm: would(0, 1, 0)", x.would(0, 1, 0), NOT);
         due("no algorithm: would(4, 1, 0)", x.would(4, 1, 0), OUTSIDE);
@@ -713,7 +671,7 @@ public final class PromisesTest {
         due("nothing is changed: undo()", x.undo(), 0);
     }
 
-    private static void wouldLong() {
+    private void wouldLong() {
         make("5r;9r;7r;", 4);
         wakeAll();
         int[] endless = {300, 300, NONE, 0, 0};
@@ -722,7 +680,7 @@ public final class PromisesTest {
         }
     }
 
-    private static void foresee() {
+    private void foresee() {
         make("5r;9r;7r;", 0);
         due("no algorithm: foresee(1, 0)", x.foresee(1, 0), NOT);
         due("no algorithm: foresee(4, 0)", x.foresee(4, 0), OUTSIDE);
@@ -766,7 +724,7 @@ public final class PromisesTest {
         }
     }
 
-    private static void foreseeFull() {
+    private void foreseeFull() {
         make("1r;2r;3r;4r;5r;", 2);
         x.wake(0);
         x.wake(1);
@@ -779,7 +737,7 @@ public final class PromisesTest {
         due("seven or eight links: foresee(1, 3)", x.foresee(1, 3), FULL);
     }
 
-    private static void sit() {
+    private void sit() {
         x = new HeadsOfRings();
         due("no ring: sit(3)", x.sit(3), NOT);
         due("no ring: sit(4)", x.sit(4), OUTSIDE);
@@ -796,7 +754,7 @@ public final class PromisesTest {
         }
     }
 
-    private static void chance() {
+    private void chance() {
         x = new HeadsOfRings();
         int[][] wrong = {{0, 1, 0, 0}, {6, 1, 0, 0}, {1, 0, 0, 0}, {1, 4, 0, 0}, {1, 1, -1, 0}, {1, 1, 5, 0},
             {1, 1, 0, -1}, {1, 1, 0, 2}, {LEAST, 1, 0, 0}, {1, GREATEST, 0, 0}, {1, 1, LEAST, 0}, {1, 1, 0, GREATEST}};
@@ -813,27 +771,21 @@ public final class PromisesTest {
         }
     }
 
-    private static void counts(String claim, int... want) {
-        for (int what = 0; what < want.length; what++) {
-            due(claim + ": count(" + what + ")", x.count(what), want[what]);
-        }
-    }
-
-    private static void count() {
+    private void count() {
         x = new HeadsOfRings();
         for (int wrong : new int[] {-1, 11, LEAST, GREATEST}) {
             due("count(" + wrong + ")", x.count(wrong), OUTSIDE);
         }
         make("5r;9r;7r;", 0);
         type("x");
-        counts("no algorithm", 3, 0, 0, 0, 0, 0, 0, 0, NONE, 0, 1);
+        countsAre("no algorithm", 3, 0, 0, 0, 0, 0, 0, 0, NONE, 0, 1);
         x.begin(1, 1, 1);
-        counts("begun", 3, 1, 0, 3, 0, 0, 0, 0, NONE, 0, 1);
+        countsAre("begun", 3, 1, 0, 3, 0, 0, 0, 0, NONE, 0, 1);
         x.wake(1);
-        counts("one is woken", 3, 1, 1, 2, 1, 0, 0, 0, NONE, 1, 1);
+        countsAre("one is woken", 3, 1, 1, 2, 1, 0, 0, 0, NONE, 1, 1);
         x.deliver(2);
-        counts("one is out", 3, 1, 1, 1, 1, 1, 0, 0, NONE, 2, 1);
+        countsAre("one is out", 3, 1, 1, 1, 1, 1, 0, 0, NONE, 2, 1);
         x.run(0, 1, 3);
-        counts("one is head, one informed", 3, 1, 1, 0, 0, 1, 1, 1, 1, 3, 1);
+        countsAre("one is head, one informed", 3, 1, 1, 0, 0, 1, 1, 1, 1, 3, 1);
     }
 }
