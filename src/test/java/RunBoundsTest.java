@@ -258,7 +258,7 @@ public final class RunBoundsTest extends Bench {
 
     /** Plays so many of the actions that could be undone, and returns how many there were. */
     private int play(int way, int most) {
-        make("5r;4r;9r;7r;", way, 1, 31);
+        make(way <= 2 ? "5r;4b;9b;7r;" : "5r;4r;9r;7r;", way, 1, 31);
         int done = 0;
         for (String action : actionsOf(way)) {
             if (done < most && Calls.make(x, action) > 0) {
@@ -402,20 +402,30 @@ public final class RunBoundsTest extends Bench {
                     make("5r;4r;9r;7r;1r;", way, 9, 31);
                     wakeAll();
                     x.run(0, 1, 3);
-                    int[] got = new int[5];
-                    for (int what = 0; what <= 4; what++) {
-                        got[what] = x.would(order, seed, what);
-                    }
-                    int sent = x.sent(0);
-                    String claim = "algorithm " + way + ", order " + order + ", seed " + seed + ": would of ";
-                    due(claim + "0", got[0], x.run(order, seed, 200));
-                    due(claim + "1", got[1], x.sent(0) - sent);
-                    due(claim + "2", got[2], x.count(8));
-                    due(claim + "3", got[3], x.count(6) + x.count(7));
-                    due(claim + "4", got[4], x.count(2) == 0 ? 1 : 0);
+                    wouldIsAsTheRun("algorithm " + way, order, seed);
                 }
             }
         }
+        // With few marks the greatest one occurs twice now and then, and is drawn again while it is tried.
+        for (int seed = 1; seed <= 40; seed++) {
+            make("5b;4b;9b;", 4, 2 + seed % 2, seed);
+            wakeAll();
+            wouldIsAsTheRun("marks by seed " + seed, seed % 4, seed);
+        }
+    }
+
+    private void wouldIsAsTheRun(String claim, int order, int seed) {
+        int[] got = new int[5];
+        for (int what = 0; what <= 4; what++) {
+            got[what] = x.would(order, seed, what);
+        }
+        int sent = x.sent(0);
+        String call = claim + ": would(" + order + ", " + seed + ", ";
+        due(call + "0)", got[0], x.run(order, seed, 200));
+        due(call + "1)", got[1], x.sent(0) - sent);
+        due(call + "2)", got[2], x.count(8));
+        due(call + "3)", got[3], x.count(6) + x.count(7));
+        due(call + "4)", got[4], x.count(2) == 0 ? 1 : 0);
     }
 
     private void foreseeOfNoLetter() {
@@ -486,6 +496,13 @@ public final class RunBoundsTest extends Bench {
                 }
             }
         }
+        // Marks that are drawn again while it is foreseen.
+        for (int seed = 1; seed <= 20; seed++) {
+            make("5b;4b;9b;", 4, 2, seed);
+            wakeAll();
+            x.run(0, 1, 4);
+            foreseenAsTried("marks by seed " + seed);
+        }
     }
 
     private void sixLinks() {
@@ -535,6 +552,15 @@ public final class RunBoundsTest extends Bench {
         foreseenAsTried("six links now");
         due("foresee(1, 3) = 6; deliver(5) = 2; foresee(1, 3) = FULL");
         due("links with letters", busyLinks().size(), 7);
+        // More sequences than 6 * 6 * 6.
+        make("2r;1r;3r;6r;5r;4r;", 2);
+        wake(1, 4, 3, 0);
+        deliver(9, 6);
+        wake(5);
+        deliver(7, 10, 4, 8, 3, 9);
+        due("links with letters", busyLinks().size(), 6);
+        foreseenAsTried("six links now, more later");
+        due("foresee(3, 3) = 257");
     }
 
     private void lastPromisedCall() {

@@ -125,6 +125,23 @@ public final class TextBoundsTest extends Bench {
         due("ring() = -104");
         type("8r;9b;");
         due("ring() = 2");
+        for (char sign : "9 r;x".toCharArray()) {
+            afterFortyOf(sign);
+        }
+    }
+
+    /** The end of a text is its length, whatever an earlier text had there. */
+    private void afterFortyOf(char sign) {
+        String[] texts = {"", "8", "8r", "8r;", "8r;9", "8r;9b", "8r;9b;", "8r; ", "8r;9b; "};
+        int[] answers = {-100, -101, -102, -103, -104, -105, 2, -104, 2};
+        for (int i = 0; i < texts.length; i++) {
+            fresh();
+            type(String.valueOf(sign).repeat(40));
+            x.ring();
+            type(texts[i]);
+            due("ring() of '" + texts[i] + "' after forty of '" + sign + "'", x.ring(), answers[i]);
+            due("fault()", x.fault(), answers[i] == 2 ? 0 : 1);
+        }
     }
 
     private void inPlaceOfThePresentOne() {
