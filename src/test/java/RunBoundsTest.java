@@ -10,6 +10,7 @@ public final class RunBoundsTest extends Bench {
     private void all() {
         runEndsByItsNumber();
         runEndsWithoutLetters();
+        runAroundItsNumber();
         runOfNoLetter();
         runWithoutAlgorithm();
         leastLink();
@@ -31,6 +32,7 @@ public final class RunBoundsTest extends Bench {
         keptByRefusedCalls();
         wouldEndsByItsNumber();
         wouldEndsWithoutLetters();
+        wouldAroundItsNumber();
         wouldOfNoLetter();
         wouldAsTheRun();
         foreseeOfNoLetter();
@@ -378,6 +380,48 @@ public final class RunBoundsTest extends Bench {
         for (int order = 0; order <= 3; order++) {
             due("would(" + order + ", 7, 0) = 9; would(" + order + ", 7, 1) = 6; would(" + order + ", 7, 2) = 1");
             due("would(" + order + ", 7, 3) = 3; would(" + order + ", 7, 4) = 1");
+        }
+    }
+
+    /** So many letters of a long election by order 0 are left; its marks are equal in 39 phases. */
+    private void longElection(int left) {
+        make(textOf(6, 'r'), 4, 2, 253516);
+        wakeAll();
+        int all = 537;
+        for (int before = all - left; before > 0; before -= 200) {
+            due("the letters before", x.run(0, 1, Math.min(before, 200)), Math.min(before, 200));
+        }
+    }
+
+    private void runAroundItsNumber() {
+        says("until there are none on any link or a given number is delivered");
+        for (int left : new int[] {1, 2, 198, 199, 200, 201, 202, 300}) {
+            longElection(left);
+            due("with " + left + " letters left: run(0, 1, 200)", x.run(0, 1, 200), Math.min(left, 200));
+            check.due("letters are left after 200 of " + left, (x.count(2) > 0) == (left > 200));
+            due("the rest of " + left + ": run(0, 1, 200)", x.run(0, 1, 200), Math.max(left - 200, 0));
+            due("count(2) = 0; count(6) = 1; count(7) = 5");
+        }
+    }
+
+    private void wouldAroundItsNumber() {
+        says("Returns what a run of at most 300 letters would lead to.");
+        for (int left : new int[] {199, 200, 201, 298, 299, 300, 301, 302, 303, 306, 307, 400, 537}) {
+            longElection(left);
+            int[] got = new int[5];
+            for (int what = 0; what <= 4; what++) {
+                got[what] = x.would(0, 1, what);
+            }
+            int sent = x.sent(0);
+            x.run(0, 1, 200);
+            x.run(0, 1, 100);
+            String claim = "with " + left + " letters left: would of ";
+            due(claim + "0", got[0], Math.min(left, 300));
+            due(claim + "1", got[1], x.sent(0) - sent);
+            due(claim + "2", got[2], left <= 306 ? x.count(8) : NONE);
+            // The last six letters are the crown's; each one but the last informs another contender.
+            due(claim + "3", got[3], left <= 301 ? 6 : Math.max(307 - left, 0));
+            due(claim + "4", got[4], left <= 300 ? 1 : 0);
         }
     }
 
