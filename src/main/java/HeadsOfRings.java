@@ -231,7 +231,7 @@ public final class HeadsOfRings {
             return FULL;
         }
         foresight.reset(now);
-        foresight.explore(now, k);
+        Foresight.explore(foresight, now, k);
         switch (what) {
             case 0:
                 return foresight.leastSent;
@@ -1090,17 +1090,18 @@ public final class HeadsOfRings {
             sequences = 0;
         }
 
-        void explore(Election from, int left) {
-            Election after = left >= 1 && left <= MOST_FORESEEN ? trials[left - 1] : null;
+        /** Calls itself at most MOST_FORESEEN deep: with none left, there is no trial to go on with. */
+        private static void explore(Foresight seen, Election from, int left) {
+            Election after = left >= 1 && left <= MOST_FORESEEN ? seen.trials[left - 1] : null;
             if (after == null || from.letterCount == 0) {
-                note(from);
+                seen.note(from);
                 return;
             }
             for (int line = 0; line < 2 * MOST_CONTENDERS; line++) {
                 if (from.isBusy(line)) {
                     after.copyFrom(from);
                     after.deliverFrom(line);
-                    explore(after, left - 1);
+                    explore(seen, after, left - 1);
                 }
             }
         }

@@ -8,6 +8,11 @@ final class Check {
         sentence = "\"" + sentenceOfDocument + "\" ";
     }
 
+    /** What the following answers are due to, if it is no sentence of the document. */
+    void about(String claim) {
+        sentence = claim + ": ";
+    }
+
     void due(String call, long got, long want) {
         if (got != want) {
             wrong++;

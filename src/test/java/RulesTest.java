@@ -106,10 +106,10 @@ public final class RulesTest {
             check.due("of the library: " + library.group(),
                 Set.of("System.arraycopy", "Math.min", "Math.max").contains(library.group()));
         }
-        methodLengths(source.split("\n"));
+        methods(source.split("\n"));
     }
 
-    private static void methodLengths(String[] lines) {
+    private static void methods(String[] lines) {
         int start = -1;
         String indent = "";
         for (int i = 0; i < lines.length; i++) {
@@ -119,8 +119,15 @@ public final class RulesTest {
                 indent = head.group(1);
             } else if (start >= 0 && lines[i].equals(indent + "}")) {
                 check.due("at most sixty lines: " + lines[start].trim(), i - start < 60);
+                recursion(lines[start].trim(), String.join("\n", Arrays.copyOfRange(lines, start + 1, i)));
                 start = -1;
             }
         }
+    }
+
+    private static void recursion(String head, String body) {
+        Matcher name = Pattern.compile("(\\w+)\\(").matcher(head);
+        boolean callsItself = name.find() && Pattern.compile("(?<!\\.)\\b" + name.group(1) + "\\(").matcher(body).find();
+        check.due("what calls itself is private and static: " + head, !callsItself || head.startsWith("private static "));
     }
 }
